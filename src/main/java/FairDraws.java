@@ -1497,7 +1497,7 @@ public final class FairDraws {
             skipBlanks();
             int start = at;
             int value = 0;
-            for (; isDigit(at); at++) {
+            for (; at < length && isDigit(at); at++) {
                 // Digits may go on for the whole tape: no number that is told is above that of ticks.
                 value = Math.min(10 * value + bytes[at] - '0', MAX_TICK + 1);
             }
