@@ -226,6 +226,7 @@ public final class PromiseTest {
         toldWell();
         toldInPlace();
         faultsOfBytes();
+        cutTexts();
         faultsOfNumbers();
         faultsOfStatements();
         ends();
@@ -261,6 +262,15 @@ public final class PromiseTest {
         due("total(0, 4)", x.total(0, 4), 1);
         due("count(3)", x.count(3), 0);
         sampleIs(of("size 1 2;key 1 a 1 5;key 1 a 1 7;key 1 a 1 6"), 1, 1, 2);
+        due("shard 3", tell(x, "size 3 7;window 3 8;item 3 a 1;seed 9;wait 4"), 1);
+        due("total(3, 4)", x.total(3, 4), 7);
+        due("total(3, 5)", x.total(3, 5), 8);
+        due("of(0, 0)", x.of(0, 0), 3);
+        due("told behind another one", tell(x, "key 0 a 1 5"), 1);
+        due("total(3, 4)", x.total(3, 4), 4);
+        due("total(3, 5)", x.total(3, 5), 0);
+        due("count(2)", x.count(2), 0);
+        due("count(3)", x.count(3), 1);
     }
 
     private static void toldInPlace() {
@@ -325,6 +335,27 @@ public final class PromiseTest {
         fault("seed;", 4, 1);
         fault("window", 6, 1);
         fault("windows 0 5", 0, 1);
+    }
+
+    /** What was behind the tape's end counts no more. */
+    private static void cut(String text, int n, int place, int kind) {
+        FairDraws x = new FairDraws();
+        feed(x, text);
+        x.end(n);
+        due("tell() of \"" + text + "\", its first " + n, x.tell(), -2 - (8 * place + kind));
+    }
+
+    private static void cutTexts() {
+        cut("seed 5", 2, 0, 1);
+        cut("seed 5", 4, 4, 1);
+        cut("seed 5", 5, 5, 1);
+        cut("item 0 ab", 8, 8, 1);
+        cut("item 0 a 1;", 9, 9, 1);
+        FairDraws x = new FairDraws();
+        feed(x, "seed 55");
+        x.end(6);
+        due("tell", x.tell(), 0);
+        due("count(3)", x.count(3), 5);
     }
 
     private static void faultsOfNumbers() {
@@ -661,15 +692,15 @@ public final class PromiseTest {
     }
 
     private static void weighingAll() {
-        FairDraws x = of("key 0 a 20 5;key 0 a 7 900;key 0 a 10 5;key 1 a 3 5;key 0 a 1 950");
-        sampleIs(x, 0, 1, 4, 0, 2);
+        FairDraws x = of("key 0 b 7 900;key 0 a 20 5;key 0 c 10 6;key 1 a 3 5;key 0 a 1 950");
+        sampleIs(x, 0, 0, 4, 1, 2);
         x.drop(4);
         due("weighAll(0, 2)", x.weighAll(0, 2), 2);
-        int[] weights = {20, 14, 20, 3, 1};
+        int[] weights = {14, 20, 20, 3, 1};
         for (int item = 0; item < 5; item++) {
             due("of(" + item + ", 2)", x.of(item, 2), weights[item]);
         }
-        sampleIs(x, 0, 1, 0, 2);
+        sampleIs(x, 0, 0, 2, 1);
         due("weighAll(0, 20)", x.weighAll(0, 20), 1);
         due("weighAll(0, 20)", x.weighAll(0, 20), -2);
         due("weighAll(3, 2)", x.weighAll(3, 2), -2);
@@ -699,6 +730,7 @@ public final class PromiseTest {
         due("split(0, 0, -1)", x.split(0, 0, -1), -1);
         due("count(4)", x.count(4), 3);
         due("split(0, 0, 3)", x.split(0, 0, 3), 2);
+        sampleIs(x, 3, 2, 0);
         ends();
     }
 
@@ -1008,6 +1040,7 @@ public final class PromiseTest {
         FairDraws x = five();
         tellMore(x);
         due("partOf(15, 3, 0)", x.partOf(15, 3, 0), 2);
+        due("partOf(15, 1, 2)", x.partOf(15, 1, 2), 1);
         due("partOf(15, 4, 1)", x.partOf(15, 4, 1), 1);
         due("partOf(15, 3, 1)", x.partOf(15, 3, 1), 0);
         due("partOf(15, 24, 0)", x.partOf(15, 24, 0), 5);
@@ -1336,6 +1369,7 @@ public final class PromiseTest {
         x.pass(1);
         due("weightFor of one that isn't alive", x.weightFor(5), -2);
         due("like keys, the lesser number", of("size 0 1;key 0 a 1 256;key 0 a 1 512").weightFor(0), 2);
+        due("the greatest", of("size 0 1;key 0 a 19 1023;key 0 a 1 1023").weightFor(1), 20);
         due("room", of("size 0 2;key 0 a 5 1;key 0 a 1 512").weightFor(0), 1);
         ends();
     }
@@ -1383,6 +1417,9 @@ public final class PromiseTest {
         due("windowFor(-1)", x.windowFor(-1), -1);
         x.window(0, 1);
         due("one that isn't alive by the window of now", x.windowFor(2), 8);
+        due("an undone one", x.put(0, 0, 1, 900), 5);
+        x.undo();
+        due("when one that was ahead is undone", x.windowFor(2), 8);
         x = of("key 0 a 1 5;wait 9999");
         due("of 9999 ticks ago", x.windowFor(0), -2);
         due("of 9998 ticks ago", of("key 0 a 1 5;wait 9998").windowFor(0), 9999);
@@ -1435,6 +1472,7 @@ public final class PromiseTest {
         due("without a window", x.enters(4), -2);
         due("without a window", x.enters(1), 0);
         due("those of one tick", of("size 0 1;window 0 5;key 0 a 1 5;key 0 a 1 6").enters(0), -2);
+        due("an expired rival", of("size 0 1;window 0 1;key 0 a 1 6;wait 2;key 0 a 1 5").enters(1), 0);
         due("the next tick", of("size 0 1;window 0 5;key 0 a 1 6;wait 1;key 0 a 1 5").enters(1), 4);
         ends();
     }
@@ -1527,6 +1565,9 @@ public final class PromiseTest {
             due("outBy(" + item + ")", x.outBy(item), want[item]);
         }
         x.put(0, 0, 1, 501);
+        x.undo();
+        due("outBy(3), when who put it out is undone", x.outBy(3), -2);
+        x.put(0, 0, 1, 501);
         x.put(0, 0, 1, 502);
         due("outBy(3)", x.outBy(3), 5);
         due("outBy(1)", x.outBy(1), 6);
@@ -1555,6 +1596,12 @@ public final class PromiseTest {
             due("labels(0, 0, " + what + ")", x.labels(0, 0, what), want[what]);
         }
         due("labels(0, 1, 0)", x.labels(0, 1, 0), 1);
+        x.put(0, 0, 5, 5);
+        x.undo();
+        for (int what = 0; what < 4; what++) {
+            due("labels(0, 0, " + what + ") behind an undone one", x.labels(0, 0, what), want[what]);
+        }
+        due("labels of the first one", of("key 0 a 7 5").labels(0, 0, 1), 7);
         due("labels(1, 0, 1)", x.labels(1, 0, 1), 9);
         due("labels(0, 25, 0)", x.labels(0, 25, 0), 0);
         due("labels(0, 0, 4)", x.labels(0, 0, 4), -1);
@@ -1575,6 +1622,11 @@ public final class PromiseTest {
             due("total(0, " + what + ")", x.total(0, what), want[what]);
         }
         due("total(1, 2)", x.total(1, 2), 9);
+        x.put(0, 0, 5, 5);
+        x.undo();
+        for (int what = 0; what < 6; what++) {
+            due("total(0, " + what + ") behind an undone one", x.total(0, what), want[what]);
+        }
         due("total(3, 0)", x.total(3, 0), 0);
         due("total(0, 6)", x.total(0, 6), -1);
         due("total(0, -1)", x.total(0, -1), -1);
@@ -1632,6 +1684,22 @@ public final class PromiseTest {
         due("others ahead", x.same(0, 0), 0);
         x.undo();
         due("undone", x.same(0, 0), 1);
+        x.drop(1);
+        x.size(0, 2);
+        x.keep(1);
+        x.undo();
+        x.undo();
+        x.size(0, 2);
+        x.drop(3);
+        // 1, 2 in place of 3, 2.
+        due("another first one", x.same(1, 0), 0);
+        x.undo();
+        x.undo();
+        x.back(0);
+        FairDraws y = five();
+        y.keep(1);
+        due("nothing kept on the other shelf", y.same(0, 0), -2);
+        x.drop(0);
         x.size(0, 2);
         due("fewer", x.same(0, 0), 0);
         x.size(0, 4);
@@ -1668,6 +1736,11 @@ public final class PromiseTest {
         x.drop(0);
         x.drop(2);
         dueText("told", text(x), shards + ";" + "wait 9999;".repeat(3) + "wait 8;seed 0");
+        x = of("key 0 a 10 10;wait 1;key 0 a 1 100;wait 99;key 0 a 1 1000;wait 900;key 0 a 1 999;wait 9000;key 0 a 1 99;"
+            + "wait 1;seed 10000");
+        dueText("told", text(x), "size 0 4;window 0 0;size 1 4;window 1 0;size 2 4;window 2 0;size 3 4;window 3 0;"
+            + "key 0 a 10 10;wait 1;key 0 a 1 100;wait 99;key 0 a 1 1000;wait 900;key 0 a 1 999;wait 9000;key 0 a 1 99;"
+            + "wait 1;seed 10000");
         x = of("wait 9998;wait 1");
         due("told(-1) of one wait", x.told(-1), 86 + 10);
         x = five();
