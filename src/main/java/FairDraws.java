@@ -646,8 +646,10 @@ public final class FairDraws {
         int first = NOT_SO;
         for (int item = 0; item < state.came; item++) {
             int from = state.timeOf[item];
-            if (!state.isDropped[item] && state.countUndroppedBetween(from, from + ticks - 1) > most) {
-                most = state.countUndroppedBetween(from, from + ticks - 1);
+            int n = state.countUndroppedBetween(from, from + ticks - 1);
+            // Items come one behind the other, so of like ones the first that is met has the least tick.
+            if (!state.isDropped[item] && n > most) {
+                most = n;
                 first = from;
             }
         }
@@ -1497,7 +1499,7 @@ public final class FairDraws {
             skipBlanks();
             int start = at;
             int value = 0;
-            for (; at < length && isDigit(at); at++) {
+            for (; at < length && isWithin(bytes[at], '0', '9'); at++) {
                 // Digits may go on for the whole tape: no number that is told is above that of ticks.
                 value = Math.min(10 * value + bytes[at] - '0', MAX_TICK + 1);
             }
@@ -1540,10 +1542,6 @@ public final class FairDraws {
             while (at < length && bytes[at] == ' ') {
                 at++;
             }
-        }
-
-        private boolean isDigit(int place) {
-            return place < length && isWithin(bytes[place], '0', '9');
         }
 
         private boolean isLetter(int place) {

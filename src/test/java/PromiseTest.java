@@ -1337,6 +1337,11 @@ public final class PromiseTest {
         due("busiest(9999, 0)", x.busiest(9999, 0), 7);
         x.drop(3);
         due("busiest(1, 1)", x.busiest(1, 1), 14);
+        due("busiest(2, 0)", x.busiest(2, 0), 2);
+        due("busiest(2, 1)", x.busiest(2, 1), 3);
+        x.drop(0);
+        due("a dropped one's tick", x.busiest(9999, 1), 3);
+        x.undo();
         x.window(0, 1);
         x.pass(50);
         due("those that aren't alive count", x.busiest(9999, 0), 6);
@@ -1344,6 +1349,12 @@ public final class PromiseTest {
         due("busiest(10000, 0)", x.busiest(10000, 0), -1);
         due("busiest(1, 2)", x.busiest(1, 2), -1);
         due("busiest(1, -1)", x.busiest(1, -1), -1);
+        x = of("key 0 a 1 5;key 0 a 1 5;key 0 a 1 5;wait 9;key 0 a 1 5;wait 1;key 0 a 1 5;wait 1;key 0 a 1 5;"
+            + "wait 1;key 0 a 1 5");
+        due("busiest(1, 0)", x.busiest(1, 0), 3);
+        due("busiest(2, 0)", x.busiest(2, 0), 3);
+        due("busiest(3, 1)", x.busiest(3, 1), 0);
+        due("busiest(4, 1)", x.busiest(4, 1), 9);
         x = new FairDraws();
         due("busiest of none, 0", x.busiest(1, 0), 0);
         due("busiest of none, 1", x.busiest(1, 1), -2);
