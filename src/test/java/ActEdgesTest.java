@@ -28,6 +28,8 @@ public final class ActEdgesTest {
         seeds();
         undoing();
         undoneInTurn();
+        undoneIsNowhere();
+        whenHundredCame();
         keeping();
         goingBack();
         EDGES.end(5, 24);
@@ -148,6 +150,8 @@ public final class ActEdgesTest {
         int seed = Lots.seedAheadOfZeros(1);
         EDGES.acts("the first", RICH, "again(0)", Lots.drawn(9, 0), "of(0, 3)", Lots.drawn(9, 0), "count(3)", Lots.seed(9, 0),
             "of(0, 4)", 0, "again(0)", Lots.drawn(9, 1));
+        EDGES.acts("its place goes with it", new World("key 0 a 1 700;key 0 a 1 5"), "again(1)", 609, "sample(0, 0)", 0, "again(1)", 954,
+            "sample(0, 0)", 1);
         EDGES.acts("the last", RICH, "again(6)", Lots.drawn(9, 0), "of(6, 3)", Lots.drawn(9, 0));
         EDGES.acts("one that expired", RICH, "again(2)", Lots.drawn(9, 0), "of(2, 3)", Lots.drawn(9, 0));
         EDGES.acts("a lot 0 is drawn again", RICH.and("seed(" + seed + ")"), "again(0)",
@@ -349,6 +353,39 @@ public final class ActEdgesTest {
                 EDGES.holds("none more behind " + acts, x.undo() == -1 && x.count(2) == tick && x.count(4) == 0);
             }
         }
+    }
+
+    /** What an undone act had brought is in no answer any more, nor does it come back with a later one. */
+    private static void undoneIsNowhere() {
+        String[] acts = {"come(0, 0, 1)", "put(0, 0, 20, 1023)", "put(1, 2, 20, 1023)", "pass(2)", "size(0, 1)", "window(1, 0)",
+            "weigh(1, 20)", "again(0)", "drop(3)", "move(4, 0)", "merge(1, 0)", "rename(2, 0)", "thin(1)", "swap(1, 4)",
+            "weighAll(0, 20)", "split(1, 2, 0)", "purge()", "seed(65535)"};
+        for (String act : acts) {
+            EDGES.alike("undone", RICH.and(act, "undo()"), RICH);
+            EDGES.alike("undone, when there are fewer items", RICH.and("put(0, 0, 1, 900)", act, "undo()", "undo()"), RICH);
+            EDGES.alike("not there in what was kept", RICH.and("keep(0)", act, "back(0)"), RICH.and("keep(0)"));
+        }
+        EDGES.runs("a dropped one that is undone", RICH, "put(0, 0, 1, 1)", 7, "drop(7)", 3, "undo()", 9, "undo()", 8,
+            "put(0, 0, 1, 1)", 7, "of(7, 5)", 2, "count(1)", 7);
+        EDGES.runs("a dropped one that was not kept", RICH, "put(0, 0, 1, 1)", 7, "drop(7)", 3, "back(0)", 5, "come(0, 0, 1)", 5,
+            "put(0, 0, 1, 1)", 6, "put(0, 0, 1, 1)", 7, "of(7, 5)", 2, "of(5, 5)", 2);
+    }
+
+    /** 100 items are the most: 49 of shard 0 that are not dropped, 49 of shard 1, one of shard 2. */
+    private static void whenHundredCame() {
+        Object[][] each = {{10, "weigh(99, 20)", 2}, {11, "again(99)", Lots.drawn(1, 99)}, {12, "drop(98)", 48}, {13, "move(99, 3)", 2},
+            {14, "merge(1, 0)", 49}, {15, "rename(0, 5)", 49}, {15, "rename(1, 5)", 49}, {16, "thin(0)", 45}, {16, "thin(1)", 45},
+            {17, "swap(0, 99)", 1}, {18, "weighAll(0, 3)", 49}, {18, "weighAll(2, 3)", 1}, {19, "split(1, 1, 3)", 49},
+            {21, "seed(5)", Lots.seed(1, 98)}, {7, "pass(1)", 6}, {8, "size(1, 12)", 4}, {9, "window(1, 1)", 0}};
+        for (Object[] one : each) {
+            EDGES.promise((Integer) one[0]);
+            EDGES.acts("when 100 came", FULL, one[1], one[2]);
+        }
+        EDGES.promise(20);
+        EDGES.acts("when 100 came", FULL.and("window(1, 1)", "window(2, 5)"), "purge()", 50);
+        EDGES.promise(22);
+        EDGES.runs("the 100th is undone", FULL, "undo()", 2, "undo()", 1, "undo()", 0, "count(0)", 99, "undo()", -1, "come(0, 0, 1)",
+            99, "come(0, 0, 1)", -2);
     }
 
     private static void keeping() {

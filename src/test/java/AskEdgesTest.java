@@ -340,7 +340,7 @@ public final class AskEdgesTest {
 
     private static void expiredOnes() {
         EDGES.promise(42);
-        World world = new World("window 0 5;key 0 a 1 5;key 1 a 1 5;wait 1;key 0 a 1 5;wait 1;key 0 a 1 6;wait 3");
+        World world = new World("window 0 5;key 0 a 1 5;key 1 a 1 5;wait 1;key 0 b 1 5;wait 1;key 0 z 1 6;wait 3");
         EDGES.asks("a tick that is that less the window", world, "expired(0, -1)", 1, "expired(0, 0)", 0, "expired(0, 1)", -2);
         EDGES.runs("by numbers", world, "pass(1)", 6, "expired(0, -1)", 2, "expired(0, 1)", 2, "pass(1)", 7, "expired(0, -1)", 3,
             "expired(0, 2)", 3, "drop(2)", 2, "expired(0, 1)", 3, "expired(0, 2)", -2);
@@ -415,6 +415,7 @@ public final class AskEdgesTest {
         EDGES.asks("fewer", kept.and("size(0, 2)"), "same(1, 0)", 0);
         EDGES.asks("more", kept.and("size(0, 4)"), "same(1, 0)", 0);
         EDGES.asks("none any more", kept.and("merge(0, 1)"), "same(1, 0)", 0, "same(1, 1)", 0);
+        EDGES.asks("another first one", FIVE.and("size(0, 1)", "keep(1)", "drop(1)"), "same(1, 0)", 0);
         EDGES.asks("another last one", kept.and("drop(2)"), "same(1, 0)", 0);
         EDGES.runs("the shelf's tick is its own", FIVE.and("window(0, 5)", "keep(0)", "pass(5)"), "same(0, 0)", 0, "back(0)", 5,
             "same(0, 0)", 1);

@@ -95,6 +95,15 @@ final class Edges {
         answers(sentence, world.make(), 0, callsAndAnswers);
     }
 
+    /** Whatever is asked of objects of both worlds has like answers. */
+    void alike(String sentence, World world, World other) {
+        FairDraws x = world.make();
+        FairDraws y = other.make();
+        for (String call : World.asks()) {
+            check(sentence, world + " " + call, World.call(x, call), World.call(y, call));
+        }
+    }
+
     /** The text is told on top of a world: how many items came, then what calls answer. */
     void tells(String sentence, World world, String text, int items, Object... callsAndAnswers) {
         FairDraws x = world.make();

@@ -21,6 +21,7 @@ public final class TimeEdgesTest {
         windowsFor();
         windowsForRivals();
         laterOnes();
+        hundredAsked();
         entering();
         enteringBehindRivals();
         changing();
@@ -134,6 +135,22 @@ public final class TimeEdgesTest {
         EDGES.asks("those that expired are not alive again", RICH, "later(1, 0, -1)", 2, "later(1, 1, -1)", 0);
     }
 
+    /** The last rows that there are. */
+    private static void hundredAsked() {
+        World full = new World("size 0 12;item 0 a 20 times 50;item 0 a 20 times 49", "put(0, 0, 1, 1)");
+        EDGES.promise(44);
+        EDGES.asks("when 100 came", full, "weightFor(99)", -2);
+        EDGES.promise(45);
+        EDGES.asks("when 100 came", full, "sizeFor(99)", -2);
+        EDGES.promise(46);
+        EDGES.asks("when 100 came", full, "windowFor(99)", -2);
+        EDGES.asks("when 100 came", full.and("pass(5)"), "windowFor(99)", -2);
+        EDGES.promise(48);
+        EDGES.asks("when 100 came", full, "enters(99)", -2);
+        EDGES.promise(52);
+        EDGES.asks("when 100 came", full, "outBy(99)", -2);
+    }
+
     private static void entering() {
         EDGES.promise(48);
         EDGES.refuses("without it", RICH, -1, Edges.beyond("enters", 0, 6));
@@ -153,6 +170,8 @@ public final class TimeEdgesTest {
         EDGES.asks("one ahead came a tick ago", rivals(1).and("window(0, 5)"), "enters(1)", 4);
         EDGES.asks("in one tick", rivals(1).and("window(0, 2)"), "enters(1)", 1);
         EDGES.asks("one ahead expired just now", rivals(1).and("window(0, 1)"), "enters(1)", 0, "enters(0)", -2);
+        EDGES.asks("one ahead expired long ago", rivals(7).and("window(0, 1)"), "enters(1)", 0, "enters(0)", -2);
+        EDGES.asks("one ahead expired long ago", rivals(7).and("window(0, 3)"), "enters(1)", 0, "enters(0)", -2);
         EDGES.asks("in the most ticks", rivals(1).and("window(0, 9999)"), "enters(1)", 9998);
         EDGES.asks("a dropped one is not ahead", rivals(1).and("window(0, 5)", "drop(0)"), "enters(1)", 0);
         World three = new World("size 0 2;window 0 9;key 0 a 1 9;wait 3;key 0 a 1 8;wait 4;key 0 a 1 7");

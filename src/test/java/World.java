@@ -160,6 +160,32 @@ final class World {
         return seen;
     }
 
+    /** All that can be asked of a world of few items, but for what can be undone; some 350 calls. */
+    static List<String> asks() {
+        List<String> calls = new ArrayList<>(List.of("digest()", "told(-1)", "nextLot(0)", "busiest(1, 0)", "busiest(1, 1)",
+            "busiest(3, 0)", "busiest(3, 1)", "count(0)", "count(1)", "count(2)", "count(3)", "count(5)", "count(6)", "count(7)"));
+        String[] ofShards = {"sample(#, -1)", "sample(#, 0)", "sample(#, 1)", "sample(#, 2)", "sample(#, 3)", "capped(#, 1, -1)",
+            "capped(#, 1, 1)", "last(#)", "needs(#, 1)", "needs(#, 2)", "heavy(#, 5)", "skip(#, 1)", "kinds(#, 12)",
+            "sizeForKinds(#, 2)", "shared(#, 0)", "expired(#, -1)", "expired(#, 0)", "later(#, 1, -1)", "later(#, 3, 0)",
+            "changes(#)", "played(#, 0)", "played(#, 1)", "labels(#, 0, 0)", "labels(#, 0, 1)", "labels(#, 0, 2)",
+            "labels(#, 0, 3)", "total(#, 0)", "total(#, 1)", "total(#, 2)", "total(#, 3)", "total(#, 4)", "total(#, 5)", "mode(#)",
+            "unlike(#, 0)", "same(0, #)", "same(1, #)", "partOf(15, 3, #)", "merged(15, 24, #)"};
+        String[] ofItems = {"of(#, 0)", "of(#, 1)", "of(#, 2)", "of(#, 3)", "of(#, 4)", "of(#, 5)", "of(#, 6)", "of(#, 7)",
+            "order(#, 0)", "part(#, 1000)", "lots(#, 1)", "without(#, -1)", "without(#, 0)", "weightFor(#)", "sizeFor(#)",
+            "windowFor(#)", "enters(#)", "then(#, -1)", "then(#, 0)", "outBy(#)"};
+        for (int shard = 0; shard < 4; shard++) {
+            for (String call : ofShards) {
+                calls.add(call.replace("#", String.valueOf(shard)));
+            }
+        }
+        for (int item = 0; item < 9; item++) {
+            for (String call : ofItems) {
+                calls.add(call.replace("#", String.valueOf(item)));
+            }
+        }
+        return calls;
+    }
+
     private static void look(FairDraws x, List<Long> seen) {
         List<Long> found = new ArrayList<>();
         for (int what = 0; what < 8; what++) {
